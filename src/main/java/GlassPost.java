@@ -1038,7 +1038,6 @@ public final class GlassPost {
                 return false;
             }
             city.ice = number;
-            city.count[City.CITY] = 1;
             return true;
         }
 
@@ -1428,7 +1427,7 @@ public final class GlassPost {
 
         /** Only cells that are seen are tried: with another one the set would not be the least. */
         private int hide(int bits, int from, int more) {
-            if (more == 0) {
+            if (more <= 0) {
                 return told.firstWord(bits) == NOTHING ? 0 : NOTHING;
             }
             for (int cell = from; cell < told.cells(); cell++) {

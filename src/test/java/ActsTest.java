@@ -13,6 +13,7 @@ public final class ActsTest {
         breaks();
         undo();
         sixteenAreKept();
+        sixteenOfAllSorts();
         marks();
         backAndUndo();
         D.end();
@@ -116,6 +117,32 @@ public final class ActsTest {
         }
         D.told(g, "no more is kept", g.undo(), false, 6);
         state(g, "three stay", 0, 7, 0, 0);
+    }
+
+    private static void sixteenOfAllSorts() {
+        GlassPost g = Due.of(CITY);
+        g.scratch(2, 19);
+        g.cover(0, 19);
+        for (int cell = 0; cell < 5; cell++) {
+            g.scratch(0, cell);
+            g.cover(1, cell + 5);
+            g.scratch(2, cell + 10);
+        }
+        g.breaks(0);
+        D.due("acts", g.size(13), 16);
+        D.told(g, "undo the break", g.undo(), true, 0);
+        state(g, "of p", 0, 31, 1 << 19, 0);
+        for (int cell = 4; cell >= 0; cell--) {
+            g.undo();
+            D.due("strokes of r", g.pane(2, 1), (((1 << cell) - 1) << 10) | 1 << 19);
+            g.undo();
+            D.due("putty of q", g.pane(1, 2), ((1 << cell) - 1) << 5);
+            g.undo();
+            D.due("strokes of p", g.pane(0, 1), (1 << cell) - 1);
+        }
+        D.told(g, "the first two stay", g.undo(), false, 6);
+        state(g, "of p at the end", 0, 0, 1 << 19, 0);
+        state(g, "of r at the end", 2, 1 << 19, 0, 0);
     }
 
     private static void marks() {

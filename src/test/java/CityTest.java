@@ -12,6 +12,7 @@ public final class CityTest {
         tapeIsEmptyThen();
         cityStays();
         cityAnew();
+        rowsAreUsedAgain();
         faultAndWhere();
         D.end();
     }
@@ -165,6 +166,29 @@ public final class CityTest {
         D.fine(g, "back to more panes", Due.city(g, SMALL + ";pane q ice oo,oo;pane r thick xx,xx"), 3);
         D.due("kind of the second", g.pane(1, 0), 2);
         D.due("kind of the third", g.pane(2, 0), 1);
+    }
+
+    /** Nothing of an older city, or of one with a fault, shows in a later one. */
+    private static void rowsAreUsedAgain() {
+        String town = SMALL + ";word w xo,ox;view v oo,oo;corner a v;corner b v";
+        String full = town + ";street a b 7 breaks 3;thief a;sent p a b;person n;shard n xx,xx;shelf 4";
+        GlassPost g = Due.of(full);
+        for (int i = 0; i < 3; i++) {
+            D.fine(g, "a city without streets", Due.city(g, town), 1);
+            D.fine(g, "no way", g.soonest(0, 1), -2);
+            D.fine(g, "no thief", g.secret(0, 0, 0), 0);
+            D.due("no thieves", g.size(9), 0);
+            D.due("no letters", g.size(10), 0);
+            D.fine(g, "no shards", g.wholes(), 0);
+            D.refused(g, "no shelf", g.shelf(), 6);
+            D.refused(g, "a full city with a fault at its end", Due.city(g, full + ";"), 4);
+            D.fine(g, "still no way", g.soonest(0, 1), -2);
+            if (i == 1) {
+                D.fine(g, "a full city", Due.city(g, full), 1);
+                D.fine(g, "its way", g.soonest(0, 1), 7);
+                D.fine(g, "its thief", g.secret(0, 0, 0), -2);
+            }
+        }
     }
 
     private static void faultAndWhere() {

@@ -64,6 +64,10 @@ public final class FaultTest {
         fault(1, "^,");
         fault(1, "^12");
         fault(1, "^town");
+        fault(1, "^dity wide 2");
+        fault(1, "^cits wide 2");
+        fault(1, "^cit wide 2");
+        fault(1, "^citys wide 2");
         fault(1, "city^");
         fault(1, "city ^high 2");
         fault(1, "city ^3");
@@ -176,6 +180,9 @@ public final class FaultTest {
         fault(2, TOWN + ";sent p c ^p");
         fault(2, TOWN + ";sent p c ^later;corner later v");
         fault(2, TOWN + ";shard ^a xx,xx");
+        fault(2, PANE + ";person b;shard ^bb xx,xx");
+        fault(2, PANE + ";person aab;shard ^ab xx,xx");
+        fault(2, PANE + ";person abcdefgh;shard ^bcdefgh xx,xx");
         fault(2, TOWN + ";person a;shard ^c xx,xx");
     }
 
@@ -190,6 +197,7 @@ public final class FaultTest {
         fault(3, TOWN + ";street c ^c");
         fault(3, TOWN + ";street c d 5 breaks 5;street c ^d");
         fault(3, TOWN + ";street c d 5 breaks 5;street d ^c");
+        fault(3, TOWN + ";street c d 1 breaks 0;street d ^c");
         fault(3, TOWN + ";thief c;thief ^c");
         fault(3, TOWN + ";thief d;thief c;thief ^d");
         fault(3, HEAD + ";^city wide 2");
@@ -288,6 +296,8 @@ public final class FaultTest {
         fault(7, HEAD + ";pane p plain ^x1,xx");
         fault(7, PANE + ";word w ^zz,xx");
         fault(7, PANE + ";word w xx,^city");
+        fault(7, PANE + ";word w ^mo,oo");
+        fault(7, PANE + ";word w oo,^om");
         fault(7, PANE + ";view w oo,^xoo");
         fault(7, PANE + ";view w ^mo,oo");
         fault(7, "city wide 5 high 2 hail 1 ice 1;pane p ice xoxox,^xoxo");
@@ -318,6 +328,12 @@ public final class FaultTest {
 
     private static void goodOnes() {
         good(PANE, 1);
+        String[] alike = {"a", "aa", "aaaaaaaa", "b", "bb", "ab", "ba", "zzzzzzzz"};
+        StringBuilder panes = new StringBuilder(HEAD);
+        for (String name : alike) {
+            panes.append(";pane ").append(name).append(" ice xo,ox");
+        }
+        good(panes.toString(), 8);
         good("  city   wide 2 high 2 hail 50 ice 2 ; pane p   plain xo , ox  ", 1);
         good("city wide2high2hail50ice2;pane p plain xo,ox", 1);
         good("city wide 2 high 2 hail 5 ice 2;shelf 3;word w xx,xx;pane plain plain xo,ox;pane ice ice xo,ox", 2);

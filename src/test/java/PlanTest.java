@@ -17,6 +17,7 @@ public final class PlanTest {
         sent();
         readers();
         brokenAndBack();
+        thiefAtTheFirstCorner();
         noLetters();
         D.end();
     }
@@ -76,6 +77,20 @@ public final class PlanTest {
         D.fine(g, "unread with a broken one", g.unread(), 63);
         g.undo();
         D.fine(g, "unread as before", g.unread(), 1 << 2 | 1 << 3 | 1 << 5);
+    }
+
+    /** Corner 0 reads what passes it, and nothing else. */
+    private static void thiefAtTheFirstCorner() {
+        GlassPost g = Due.of(Due.HEAD + ";pane p plain xo,ox;word w xo,ox;view v oo,oo;corner a v;corner b v;corner c v"
+                + ";street a b 1 breaks 0;street b c 1 breaks 0;thief a;sent p a b;sent p b c;sent p c a");
+        D.fine(g, "from it", g.readers(0), 1);
+        D.fine(g, "overheard from it", g.overheard(0), 1);
+        D.fine(g, "past it", g.readers(1), 0);
+        D.fine(g, "overheard past it", g.overheard(1), 0);
+        D.fine(g, "to it", g.readers(2), 1);
+        D.fine(g, "unread", g.unread(), 2);
+        D.fine(g, "secret from it", g.secret(0, 0, 1), -2);
+        D.fine(g, "secret past it", g.secret(0, 1, 2), 1);
     }
 
     private static void noLetters() {

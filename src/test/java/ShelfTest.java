@@ -101,6 +101,9 @@ public final class ShelfTest {
         D.fine(none, "gain(1, 0)", none.gain(1, 0), -1);
         D.fine(none, "both are read against none", none.rests(), 2);
         D.fine(none, "rest() against none", none.rest(), 0);
+        GlassPost open = Due.of(Due.HEAD + ";pane p plain xx,oo;word a xx,oo;view top xo,oo;view low ox,oo");
+        D.fine(open, "read against none alone", open.rests(), 1);
+        D.fine(open, "the reader looks against none", open.rest(), 0);
         GlassPost no = Due.of(Due.HEAD + ";pane p plain xx,oo;pane q plain oo,xx;view top xx,oo;view low oo,xx");
         D.fine(no, "each flees the other", no.rests(), 0);
         D.fine(no, "no rest", no.rest(), -2);
@@ -155,6 +158,12 @@ public final class ShelfTest {
         GlassPost one = Due.of("city wide 2 high 2 hail 75 ice 1;pane p plain ox,xx;pane r ice ox,xx");
         D.fine(one, "74 is below 75; 75 times 74 and 74 is even", one.left(0, 1), 0);
         D.fine(one, "one hail", one.hails(0, 1), 1);
+        GlassPost first = Due.of("city wide 2 high 2 hail 75 ice 3;pane r ice ox,xx");
+        D.fine(first, "hails asked first", first.hails(0, 1), 1);
+        D.fine(first, "one pane: it is hit", first.left(0, 1), 0);
+        D.fine(first, "65,536 stays so, and 36 is below 75", first.hails(65536, 9), 9);
+        GlassPost melts = Due.of("city wide 2 high 2 hail 0 ice 1;pane r ice ox,xx;pane p plain ox,xx");
+        D.fine(melts, "the first one melts", melts.left(7, 1), 2);
         GlassPost edge = Due.of("city wide 2 high 2 hail 74 ice 9;pane p plain ox,xx;pane r ice ox,xx");
         D.fine(edge, "74 is not below 74", edge.hails(0, 1), 0);
     }
