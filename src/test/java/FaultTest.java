@@ -23,19 +23,11 @@ public final class FaultTest {
     }
 
     private static void fault(int number, String marked) {
-        int place = marked.indexOf('^');
-        String text = marked.substring(0, place) + marked.substring(place + 1);
-        GlassPost g = new GlassPost();
-        D.told(g, "city of " + marked, Due.city(g, text), -1, 4);
-        D.due("fault() of " + marked, g.fault(), number);
-        D.due("where() of " + marked, g.where(), place);
+        D.fault(number, marked);
     }
 
     private static void good(String text, int panes) {
-        GlassPost g = new GlassPost();
-        D.told(g, "city of " + text, Due.city(g, text), panes, 0);
-        D.due("fault() of " + text, g.fault(), 0);
-        D.due("where() of " + text, g.where(), -1);
+        D.good(text, panes);
     }
 
     private static void formOfTokens() {

@@ -123,7 +123,7 @@ public final class ShelfTest {
         D.fine(g, "rest() with none", g.rest(), -2);
     }
 
-    /** By seed 0 the draws are 74, 5624, 28652, 51808, ... */
+    /** By seed 0 the draws are 74, 5624, 28652, 51790, ... */
     private static void hail() {
         GlassPost g = Due.of(Due.HEAD + ";pane p plain xo,ox;pane q thick ox,xx;pane r ice xx,oo");
         D.fine(g, "no day", g.left(0, 0), 7);
