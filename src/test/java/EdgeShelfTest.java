@@ -193,11 +193,14 @@ public final class EdgeShelfTest {
         GlassPost like = Due.of(Due.HEAD + ";pane a plain xo,oo;pane b plain ox,oo;view v oo,oo");
         D.fine(like, "as good is not better", like.rests(), 4);
         GlassPost writer = Due.of(Due.HEAD + ";pane a plain xo,oo;pane b plain xx,oo");
-        D.fine(writer, "the writer could do better with a", writer.rests(), 1);
+        D.fine(writer, "the writer, who has chosen a, could do better", writer.rests(), 1);
         D.fine(writer, "so it is b", writer.rest(), 10);
         GlassPost reader = Due.of(Due.HEAD + ";pane a plain xx,oo;view v xo,oo");
-        D.fine(reader, "the reader could do better with none", reader.rests(), 1);
+        D.fine(reader, "the reader, who has chosen none, could do better", reader.rests(), 1);
         D.fine(reader, "so it is v", reader.rest(), 1);
+        GlassPost bare = Due.of(Due.HEAD + ";pane a plain xx,oo;word w xx,oo;view v xo,oo;view u ox,oo");
+        D.fine(bare, "the reader, who has chosen v or u, could do better", bare.rests(), 1);
+        D.fine(bare, "so it is none", bare.rest(), 0);
         GlassPost flee = Due.of(Due.HEAD + ";pane a plain xx,oo;pane b plain oo,xx;view v xx,oo;view w oo,xx");
         D.fine(flee, "each time one could", flee.rests(), 0);
         D.fine(flee, "so there is none", flee.rest(), -2);

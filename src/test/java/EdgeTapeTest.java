@@ -190,9 +190,10 @@ public final class EdgeTapeTest {
         D.says(2, "NONE, and none comes, if there would be more than 1,100.");
         GlassPost g = anew();
         Due.feed(g, SMALL);
-        while (g.size(15) < 1080) {
+        for (int fed = (SMALL.length() + 19) / 20 * 20; fed < 1080; fed += 20) {
             g.feed(BLANKS, BLANKS, BLANKS, BLANKS, BLANKS);
         }
+        D.due("room for twenty more", g.size(15), 1080);
         D.due("the last that come", g.feed(BLANKS, BLANKS, BLANKS, BLANKS, 0x20202023), 1100);
         for (int i = 0; i < 3; i++) {
             D.due("no more", g.feed(0x23232323, 0x23232323, 0x23232323, 0x23232323, 0x23232323), -1);

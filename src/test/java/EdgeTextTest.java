@@ -115,7 +115,10 @@ public final class EdgeTextTest {
             String other = word.substring(0, word.length() - 1);
             D.fault(1, SMALL + ";^" + other + " a");
             D.fault(1, SMALL + ";^" + word + "s a");
+            D.fault(1, SMALL + ";^z" + word.substring(1));
+            D.fault(1, SMALL + ";^" + other + "z");
             D.fault(1, "^" + other);
+            D.fault(1, "^z" + word.substring(1));
         }
         for (String word : new String[] {"plain", "wide", "breaks", "ice", "p", "x"}) {
             D.fault(1, SMALL + ";^" + word);
@@ -461,6 +464,17 @@ public final class EdgeTextTest {
         for (String name : new String[] {"pp", "a", "aa", "ab", "ba", "abcdefgh", "abcdefg", "bcdefgh", "abcdefgi"}) {
             all += name.length() == 8 || name.length() == 7 ? ";view " + name + " oo,oo" : ";word " + name + " oo,oo";
             D.good(all, 1);
+        }
+        String[] alike = {"r", "ab", "aq", "ba", "bq", "ca", "az", "za"};
+        String[] longer = {"aaaaaaaa", "aaaaaaab", "aaaaaaba", "baaaaaaa", "zzzzzzzz", "zzzzzzzy", "yzzzzzzz", "zyzzzzzz"};
+        StringBuilder names = new StringBuilder(HEAD);
+        for (int i = 0; i < 8; i++) {
+            names.append(";pane ").append(alike[i]).append(" ice xo,ox;word ").append(longer[i]).append(" xo,ox");
+        }
+        D.good(names.toString(), 8);
+        for (int i = 0; i < 8; i++) {
+            D.fault(3, names + ";view ^" + alike[i] + " oo,oo");
+            D.fault(3, names + ";person ^" + longer[i]);
         }
         D.good(Full.CITY, 8);
         D.fault(3, HEAD + Full.PANES + Full.WORDS + Full.VIEWS + Full.CORNERS + ";person ka;person kb;person kc;person ^cg");
