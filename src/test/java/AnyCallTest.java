@@ -22,7 +22,7 @@ public final class AnyCallTest {
             }
         }
         calls.sort(Comparator.comparing(Method::getName));
-        for (int seed = 1; seed <= 400; seed++) {
+        for (int seed = 1; seed <= 1000; seed++) {
             run(calls, new Random(seed), seed);
         }
         D.end();
@@ -31,12 +31,16 @@ public final class AnyCallTest {
     private static void run(List<Method> calls, Random random, int seed) {
         GlassPost g = new GlassPost();
         CityMaker maker = new CityMaker(seed);
-        for (int i = 0; i < 512; i++) {
+        int used = 0;
+        while (used < 450) {
             if (random.nextInt(60) == 0) {
                 String text = maker.text(20);
-                Due.city(g, random.nextBoolean() ? maker.spoilt(text) : text);
+                String told = random.nextBoolean() ? maker.spoilt(text) : text;
+                Due.city(g, told);
+                used += told.length() / 20 + 2;
             } else {
                 call(g, calls.get(random.nextInt(calls.size())), random);
+                used += 2;
             }
         }
     }
