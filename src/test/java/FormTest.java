@@ -31,6 +31,7 @@ public final class FormTest {
         throwsOnce(code);
         methodsAreShort(code);
         classes();
+        namesOfTheFaceStandOnce();
         D.end();
     }
 
@@ -64,6 +65,25 @@ public final class FormTest {
             } else if (name != null && lines[i].equals(indent + "}")) {
                 D.due("at most sixty lines: " + name, i - start + 1 <= 60, true);
                 name = null;
+            }
+        }
+    }
+
+    /** Rule 1: no method of the class's own, inside either, bears the name of a call. */
+    private static void namesOfTheFaceStandOnce() {
+        List<String> face = new ArrayList<>();
+        for (Method m : GlassPost.class.getDeclaredMethods()) {
+            if (Modifier.isPublic(m.getModifiers())) {
+                D.due(m.getName() + " stands once", face.contains(m.getName()), false);
+                face.add(m.getName());
+            }
+        }
+        List<Class<?>> all = new ArrayList<>(List.of(GlassPost.class.getDeclaredClasses()));
+        all.add(GlassPost.class);
+        for (Class<?> c : all) {
+            for (Method m : c.getDeclaredMethods()) {
+                boolean ofTheFace = c == GlassPost.class && Modifier.isPublic(m.getModifiers());
+                D.due(m + " bears no call's name", !ofTheFace && face.contains(m.getName()), false);
             }
         }
     }
